@@ -33,6 +33,10 @@ public final class LimitsTest {
         Checks.prints("[b|".repeat(99) + "a" + "]".repeat(99) + ".", "[b" + ",b".repeat(98) + "|a]");
         Checks.breaks("[b|".repeat(100) + "a" + "]".repeat(100) + ".", 298);
         Checks.breaks("(".repeat(100) + "  ", 102);
+        Checks.prints("f(b,".repeat(99) + "a" + ")".repeat(99) + ".", "f(b,".repeat(99) + "a" + ")".repeat(99));
+        Checks.breaks("f(b,".repeat(100) + "a" + ")".repeat(100) + ".", 398);
+        Checks.prints("[b,".repeat(99) + "a" + "]".repeat(99) + ".", "[b,".repeat(99) + "a" + "]".repeat(99));
+        Checks.breaks("[b,".repeat(100) + "a" + "]".repeat(100) + ".", 298);
     }
 
     private static void openTermsEnd() {

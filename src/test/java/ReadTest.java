@@ -15,7 +15,8 @@ public final class ReadTest {
         Checks.breaks("a. b.", 3);
         Checks.breaks("a. .", 3);
         Checks.breaks("a.\n%\n'", 5);
-        Checks.breaks("a. \u0001", 3);
+        Checks.breaks("a. \u0000", 3);
+        Checks.breaks("a. \u00ff", 3);
         Checks.breaks("a. 99999999999999999999", 3);
         Checks.prints("a. \t\r\n%b.", "a");
         Checks.breaks("a", 1);

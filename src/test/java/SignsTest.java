@@ -44,6 +44,7 @@ public final class SignsTest {
 
     private static void variables() {
         Checks.prints("X.", "_0");
+        Checks.prints("[A,Z,AzZ_09,AzZ_08].", "[_0,_1,_2,_3]");
         Checks.prints("_.", "_0");
         Checks.prints("[B,A,B,_,_x,_,_x,__,Ab_9].", "[_0,_1,_0,_2,_3,_4,_3,_5,_6]");
         Checks.breaks("X(a).", 1);
@@ -52,6 +53,8 @@ public final class SignsTest {
 
     private static void names() {
         Checks.prints("aB_9z.", "aB_9z");
+        Checks.prints("zAZ_09az.", "zAZ_09az");
+        Checks.prints("'zAZ_09az'.", "zAZ_09az");
         Checks.prints("!.", "!");
         Checks.prints(";.", ";");
         Checks.prints("f(!,;).", "f(!,;)");
