@@ -247,7 +247,9 @@ public final class BrokenEdgesTest {
     private static void symbolsWith(String text, String printed, int symbols) {
         int rest = 999 - symbols;
         Edge.within("f(" + text + "," + listOf(rest, "- a") + ").", "f(" + printed + "," + listOf(rest, "-(a)") + ")");
+        Edge.within("f(" + listOf(rest, "- a") + "," + text + ").", "f(" + listOf(rest, "-(a)") + "," + printed + ")");
         Edge.beyond(" f(" + text + "," + listOf(rest + 1, "- a") + ").", 1);
+        Edge.beyond(" f(" + listOf(rest + 1, "- a") + "," + text + ").", 1);
     }
 
     /** A list of so many symbols: each item has two, the end one; if one is missing, the first has one more. */

@@ -94,10 +94,16 @@ final class Checks {
             due("count(1) behind read of " + brief(text), reader.count(1), length);
             return 0;
         } catch (UnsupportedOperationException e) {
-            return BROKEN;
+            return exactly(UnsupportedOperationException.class, e, BROKEN);
         } catch (IndexOutOfBoundsException e) {
-            return TOO_LONG;
+            return exactly(IndexOutOfBoundsException.class, e, TOO_LONG);
         }
+    }
+
+    // One that Java throws by itself at an array's end is another class, below the one that is due.
+    private static int exactly(Class<?> exception, RuntimeException thrown, int kind) {
+        due("the exception's class", thrown.getClass().getName(), exception.getName());
+        return kind;
     }
 
     /** 0: the call went well, else TOO_LONG for the tape. */
@@ -106,7 +112,7 @@ final class Checks {
             reader.feed(0x20202020, 0x20202020, 0x20202020, 0x20202020, 0x20202020);
             return 0;
         } catch (IndexOutOfBoundsException e) {
-            return TOO_LONG;
+            return exactly(IndexOutOfBoundsException.class, e, TOO_LONG);
         }
     }
 
@@ -115,7 +121,7 @@ final class Checks {
             reader.end(n);
             return 0;
         } catch (IllegalArgumentException e) {
-            return WRONG_ARGUMENT;
+            return exactly(IllegalArgumentException.class, e, WRONG_ARGUMENT);
         }
     }
 
@@ -124,7 +130,7 @@ final class Checks {
             reader.about(what);
             return 0;
         } catch (IllegalArgumentException e) {
-            return WRONG_ARGUMENT;
+            return exactly(IllegalArgumentException.class, e, WRONG_ARGUMENT);
         }
     }
 
@@ -133,7 +139,7 @@ final class Checks {
             reader.word(i);
             return 0;
         } catch (IndexOutOfBoundsException e) {
-            return WRONG_ARGUMENT;
+            return exactly(IndexOutOfBoundsException.class, e, WRONG_ARGUMENT);
         }
     }
 
@@ -142,7 +148,7 @@ final class Checks {
             reader.count(what);
             return 0;
         } catch (IllegalArgumentException e) {
-            return WRONG_ARGUMENT;
+            return exactly(IllegalArgumentException.class, e, WRONG_ARGUMENT);
         }
     }
 

@@ -98,6 +98,7 @@ public final class WordTest {
         Checks.due("word(4088)", reader.word(4088), 0x292C61292C612929L);
         Checks.due("word(4089)", reader.word(4089), 0x2C61292C61292900L);
         Checks.due("word(4095)", reader.word(4095), 0x2900000000000000L);
-        noWord(reader, 4096);
+        Checks.due("word(4096)", Checks.thrownByWord(reader, 4096), Checks.WRONG_ARGUMENT);
+        Checks.due("bytes", reader.count(1), 4096);
     }
 }
