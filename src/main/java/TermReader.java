@@ -219,11 +219,10 @@ public final class TermReader {
             }
         }
 
-        void pass(Sign due) {
+        void mustBe(Sign due) {
             if (sign != due) {
                 breakHere();
             }
-            advance();
         }
 
         void breakHere() {
@@ -499,10 +498,9 @@ public final class TermReader {
             signs.start(bytes, length);
             int first = signs.place;
             tree.root = term(GREATEST_RANK, 1);
-            signs.pass(Sign.END);
-            if (signs.sign != Sign.NOTHING) {
-                signs.breakHere();
-            }
+            signs.mustBe(Sign.END);
+            signs.advance();
+            signs.mustBe(Sign.NOTHING);
             if (tree.symbols > MOST_SYMBOLS) {
                 signs.breakAt(first);
             }
@@ -556,7 +554,8 @@ public final class TermReader {
         private int inParentheses(int open) {
             signs.advance();
             int inner = term(GREATEST_RANK, open + 1);
-            signs.pass(Sign.CLOSE);
+            signs.mustBe(Sign.CLOSE);
+            signs.advance();
             return inner;
         }
 
@@ -564,7 +563,8 @@ public final class TermReader {
             boolean dot = signs.textIs(".");
             int name = addSymbol(Tree.NAME);
             signs.advance();
-            signs.pass(Sign.OPEN);
+            signs.mustBe(Sign.OPEN);
+            signs.advance();
             int last = term(ITEM_RANK, open + 1);
             tree.giveFirst(name, last);
             int terms = 1;
@@ -578,7 +578,8 @@ public final class TermReader {
                 tree.giveNext(last, following);
                 last = following;
             }
-            signs.pass(Sign.CLOSE);
+            signs.mustBe(Sign.CLOSE);
+            signs.advance();
             if (dot && terms == 2) {
                 tree.kind[name] = Tree.PAIR;
             }
@@ -603,7 +604,8 @@ public final class TermReader {
             } else {
                 tree.giveNext(item, addSymbol(Tree.EMPTY_LIST));
             }
-            signs.pass(Sign.CLOSE_LIST);
+            signs.mustBe(Sign.CLOSE_LIST);
+            signs.advance();
             return whole;
         }
 
