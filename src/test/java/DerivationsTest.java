@@ -23,27 +23,13 @@ public final class DerivationsTest {
 
     public static void main(String[] args) {
         for (int length = 1; length <= LENGTH; length++) {
-            everySequenceOf(length);
+            for (List<String> pieces : Sequences.of(SIGNS, length)) {
+                look(pieces);
+            }
         }
         sequencesThatLookLikeTerms();
         Checks.due("more than a few of them are terms", terms > MANY / 4 ? 1 : 0, 1);
         Checks.finish();
-    }
-
-    private static void everySequenceOf(int length) {
-        int all = 1;
-        for (int i = 0; i < length; i++) {
-            all *= SIGNS.length;
-        }
-        for (int number = 0; number < all; number++) {
-            List<String> pieces = new ArrayList<>();
-            int rest = number;
-            for (int i = 0; i < length; i++) {
-                pieces.add(SIGNS[rest % SIGNS.length]);
-                rest /= SIGNS.length;
-            }
-            look(pieces);
-        }
     }
 
     private static void sequencesThatLookLikeTerms() {

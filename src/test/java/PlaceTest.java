@@ -1,3 +1,4 @@
+import java.util.List;
 import java.util.Random;
 
 /**
@@ -11,27 +12,13 @@ public final class PlaceTest {
     private static final String[] GOES_ON = {"", " a", " = a", ", a", " (a)", " - a", " )", " a)", "a]", "|a]", " ,a)"};
 
     public static void main(String[] args) {
-        everySequenceOf(1);
-        everySequenceOf(2);
-        everySequenceOf(3);
+        for (int length = 1; length <= 3; length++) {
+            for (List<String> signs : Sequences.of(SIGNS, length)) {
+                look(signs.toArray(new String[0]));
+            }
+        }
         longerSequences();
         Checks.finish();
-    }
-
-    private static void everySequenceOf(int length) {
-        int all = 1;
-        for (int i = 0; i < length; i++) {
-            all *= SIGNS.length;
-        }
-        for (int number = 0; number < all; number++) {
-            String[] signs = new String[length];
-            int rest = number;
-            for (int i = 0; i < length; i++) {
-                signs[i] = SIGNS[rest % SIGNS.length];
-                rest /= SIGNS.length;
-            }
-            look(signs);
-        }
     }
 
     private static void longerSequences() {
